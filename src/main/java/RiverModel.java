@@ -328,7 +328,7 @@ public final class RiverModel {
             return NO;
         }
         search.prepare(gate, b, gauge, store, limit);
-        search.goThrough(model, skyA, gauges, now);
+        search.tryBlock(model, skyA, gauges, now, 0, 0);
         if (!search.isFound) {
             return NONE;
         }
@@ -449,27 +449,27 @@ public final class RiverModel {
     }
 
     private static boolean isNoItem(int i) {
-        return isOutside(i, 0, ITEMS_MOST - 1);
+        return i < 0 || i >= ITEMS_MOST;
     }
 
     private static boolean isNoStore(int store) {
-        return isOutside(store, 0, STORES_MOST - 1);
+        return store < 0 || store >= STORES_MOST;
     }
 
     private static boolean isNoGate(int gate) {
-        return isOutside(gate, 0, GATES_MOST - 1);
+        return gate < 0 || gate >= GATES_MOST;
     }
 
     private static boolean isNoGauge(int k) {
-        return isOutside(k, 0, GAUGES_MOST - 1);
+        return k < 0 || k >= GAUGES_MOST;
     }
 
     private static boolean isNoKnob(int k) {
-        return isOutside(k, 0, KNOBS_MOST - 1);
+        return k < 0 || k >= KNOBS_MOST;
     }
 
     private static boolean isNoWorld(int world) {
-        return isOutside(world, 0, WORLDS_MOST - 1);
+        return world < 0 || world >= WORLDS_MOST;
     }
 
     private boolean lacksItem(int i) {
@@ -517,7 +517,7 @@ public final class RiverModel {
         trial.begin(draft);
         int last = gauges.lastSeen();
         for (int hour = 0; hour <= last; hour++) {
-            trial.goHourBy(draft, skyA);
+            trial.goHour(draft, skyA.rainIn(hour), skyA.tempIn(hour));
             if (!gauges.agree(trial, hour)) {
                 return false;
             }
@@ -611,7 +611,7 @@ public final class RiverModel {
         }
 
         private static boolean isUpTo(int v, int most) {
-            return !isOutside(v, 0, most);
+            return v >= 0 && v <= most;
         }
     }
 
@@ -729,7 +729,7 @@ public final class RiverModel {
         }
 
         int cell(int i, int what) {
-            return isNoItem(i) || isOutside(what, 0, ROW - 1) ? NONE : cells[i * ROW + what];
+            return i < 0 || i >= ITEMS_MOST || what < 0 || what >= ROW ? NONE : cells[i * ROW + what];
         }
 
         void putCell(int i, int what, int v) {
@@ -761,24 +761,22 @@ public final class RiverModel {
         }
 
         boolean mayFollow(int[] row) {
-            if (!Kinds.areNumbersAsTold(row[KIND], row[FIRST_NUMBER], row[FIRST_NUMBER + 1], row[FIRST_NUMBER + 2])) {
-                return false;
-            }
             if (row[KIND] == 's') {
-                return !hasStore(row[FIRST_NAME]);
+                return areNumbersAsTold(row) && !hasStore(row[FIRST_NAME]);
             }
-            return areNamesAhead(row, many) && (row[KIND] != 'g' || gates < GATES_MOST);
+            return areNumbersAsTold(row) && areNamesAhead(row, many) && (row[KIND] != 'g' || gates < GATES_MOST);
         }
 
         boolean mayReplace(int i, int[] row) {
-            if (!Kinds.areNumbersAsTold(row[KIND], row[FIRST_NUMBER], row[FIRST_NUMBER + 1], row[FIRST_NUMBER + 2])) {
-                return false;
-            }
             int kind = cell(i, KIND);
             if (kind == 's' || row[KIND] == 's') {
-                return kind == row[KIND] && cell(i, FIRST_NAME) == row[FIRST_NAME];
+                return areNumbersAsTold(row) && kind == row[KIND] && cell(i, FIRST_NAME) == row[FIRST_NAME];
             }
-            return areNamesAhead(row, i) && (kind == 'g') == (row[KIND] == 'g');
+            return areNumbersAsTold(row) && areNamesAhead(row, i) && (kind == 'g') == (row[KIND] == 'g');
+        }
+
+        private static boolean areNumbersAsTold(int[] row) {
+            return Kinds.areNumbersAsTold(row[KIND], row[FIRST_NUMBER], row[FIRST_NUMBER + 1], row[FIRST_NUMBER + 2]);
         }
 
         private boolean areNamesAhead(int[] row, int i) {
@@ -792,7 +790,7 @@ public final class RiverModel {
         }
 
         boolean hasStore(int store) {
-            return !isNoStore(store) && storeItems[store] != NONE;
+            return store >= 0 && store < STORES_MOST && storeItems[store] != NONE;
         }
 
         boolean hasNumber(int i, int j) {
@@ -923,7 +921,7 @@ public final class RiverModel {
             long number = by.cell(i, FIRST_NUMBER);
             boolean isWarm = temp > 0;
             switch (by.cell(i, KIND)) {
-                case 'l': return leakOf(by, i, there);
+                case 'l': return leakOf(there, number, by.cell(i, FIRST_NUMBER + 1), by.cell(i, FIRST_NUMBER + 2));
                 case 'o': return Math.max(0L, there - by.capacityOf(n));
                 case 'm': return isWarm ? Math.min(there, temp * number) : 0;
                 case 'g': return Math.min(there, openingOf(by.gateOf(i)) * number);
@@ -935,10 +933,7 @@ public final class RiverModel {
             }
         }
 
-        private static long leakOf(Model by, int i, long there) {
-            long p = by.cell(i, FIRST_NUMBER);
-            long q = by.cell(i, FIRST_NUMBER + 1);
-            long h = by.cell(i, FIRST_NUMBER + 2);
+        private static long leakOf(long there, long p, long q, long h) {
             return there > h && q > 0 ? (there - h) * p / q : 0;
         }
 
@@ -1030,7 +1025,7 @@ public final class RiverModel {
         }
 
         boolean isSet(int k) {
-            return !isNoGauge(k) && whats[k] != NONE;
+            return k >= 0 && k < GAUGES_MOST && whats[k] != NONE;
         }
 
         /** What a GAUGE that is set reads in the RUN's last HOUR. */
@@ -1117,7 +1112,7 @@ public final class RiverModel {
         }
 
         boolean isSet(int k) {
-            return !isNoKnob(k) && manys[k] > 0;
+            return k >= 0 && k < KNOBS_MOST && manys[k] > 0;
         }
 
         int setMany() {
@@ -1151,11 +1146,12 @@ public final class RiverModel {
                     into.putCell(items[k], FIRST_NUMBER + numbers[k], numberAt(k, point));
                 }
             }
-            return isAsTold(0, into) && isAsTold(1, into);
-        }
-
-        private boolean isAsTold(int k, Model model) {
-            return !isSet(k) || model.isItemAsTold(items[k]);
+            for (int k = 0; k < KNOBS_MOST; k++) {
+                if (isSet(k) && !into.isItemAsTold(items[k])) {
+                    return false;
+                }
+            }
+            return true;
         }
     }
 
@@ -1225,10 +1221,6 @@ public final class RiverModel {
             isFound = false;
         }
 
-        void goThrough(Model by, Sky sky, Gauges gauges, Course from) {
-            tryBlock(by, sky, gauges, from, 0, 0);
-        }
-
         /** One level a block. What is no better than the found one is left, as the found one is lower. */
         private void tryBlock(Model by, Sky sky, Gauges gauges, Course from, int block, long peakBefore) {
             if (isOutside(block, 0, BLOCKS - 1)) {
@@ -1257,7 +1249,7 @@ public final class RiverModel {
             course.openings[gate] = opening;
             long peak = peakBefore;
             for (int hour = 0; hour < blockHours; hour++) {
-                course.goHourBy(by, sky);
+                course.goHour(by, sky.rainIn(course.hours), sky.tempIn(course.hours));
                 if (course.held[store] > limit) {
                     return ABOVE_LIMIT;
                 }

@@ -37,8 +37,8 @@ public final class GaugesTest {
         C.due("gauge(0, 0, 3)", x.gauge(0, 0, 3), RiverModel.NO);
         C.due("gauge(0, 1, 1)", x.gauge(0, 1, 1), RiverModel.NO);
         C.due("count(6)", x.count(6), 2);
-        x.see(0, 1, 9);
-        x.see(0, 2, 9);
+        x.see(0, 0, 9);
+        x.see(0, 95, 9);
         x.see(3, 95, 9);
         C.due("count(7)", x.count(7), 3);
         C.due("a refused gauge()", x.gauge(0, 1, 1), RiverModel.NO);

@@ -147,6 +147,9 @@ public final class RunsTest {
         x = Checks.built("sa,0,20;sb,0,0;lab,1,1,20;");
         x.run(1);
         C.due("no more than h", x.flow(2), 0);
+        x = Checks.built("sa,0,3;sb,0,0;lab,1,1,20;");
+        x.run(1);
+        C.due("less than h", x.flow(2), 0);
         x = Checks.built("sa,0,21;sb,0,0;lab,1,1,20;");
         x.run(1);
         C.due("one more than h", x.flow(2), 1);
@@ -196,6 +199,13 @@ public final class RunsTest {
         C.due("what comes acts at once", x.flow(4), 50);
         x.run(1);
         C.due("and goes on", x.flow(5), 50);
+        x = Checks.built("sa,0,50;sb,0,0;tab,1;tba,1;");
+        for (int hour = 0; hour < 96; hour++) {
+            x.run(1);
+            C.due("to and fro, to b", x.has(1, 1), hour % 2 == 0 ? 50 : 0);
+            C.due("to and fro, to a", x.has(0, 1), hour % 2 == 0 ? 0 : 50);
+            C.due("to and fro, all", x.book(4), 50);
+        }
         x = Checks.built("sa,0,0;sb,0,0;ra,100;tab,12;lba,1,2,0;");
         for (int hour = 0; hour < 96; hour++) {
             x.weather(0, hour, hour + 1, 10);

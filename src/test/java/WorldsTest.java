@@ -128,6 +128,13 @@ public final class WorldsTest {
         for (int what = 0; what < 4; what++) {
             C.due("booked(" + what + ")", x.booked(what), wants[what]);
         }
+        x.weigh(0, 100);
+        x.weigh(1, 100);
+        x.weigh(2, 100);
+        x.weigh(3, 1);
+        C.due("300 of 301 at 100", x.warn(0, 2, 0L, 100), 0);
+        C.due("300 of 301 at 99", x.warn(0, 2, 0L, 99), 1);
+        C.due("a weight of 1 counts", x.chance(0, 24, 250L), 101);
         RiverModel y = Checks.built(RAIN_IN);
         y.gauge(0, 0, 2);
         C.due("no weights: 0 is at least 0", y.warn(0, 1, 0L, 100), 1);
