@@ -17,6 +17,7 @@ public final class RefusalsTest {
         probesTellThingsApart();
         fineNumbersAreTaken();
         allEdgesOfANewObject();
+        badEdgesOfABuiltLand();
         badAloneChangesNothing();
         noOfABuiltLand();
         noOfAnUnbuiltLand();
@@ -73,7 +74,7 @@ public final class RefusalsTest {
 
     /** Every meeting of edges: BAD comes first, then NO, as there is no MODEL. */
     private static void allEdgesOfANewObject() {
-        C.of("Terms", "BAD: a number is none that is told. NO: not as things stand; there is no MODEL");
+        C.of("Terms", "Of several the first; nothing changes then.");
         for (Asked asked : Asked.all()) {
             RiverModel x = new RiverModel();
             int calls = 0;
@@ -88,11 +89,35 @@ public final class RefusalsTest {
         }
     }
 
-    private static void meeting(Asked asked, RiverModel x, long[] a) {
-        boolean isTold = true;
-        for (int place = 0; place < a.length; place++) {
-            isTold &= asked.isTold(place, a[place]);
+    /** Whatever else a MODEL has not, or is not as things stand: BAD comes first. */
+    private static void badEdgesOfABuiltLand() {
+        C.of("Terms", "Of several the first; nothing changes then.");
+        for (Asked asked : Asked.all()) {
+            RiverModel x = richAt(96);
+            int calls = 0;
+            for (long[] a : meetings(asked)) {
+                if (!areTold(asked, a)) {
+                    C.due(asked.name() + Arrays.toString(a) + " at the end", asked.by().ask(x, a), asked.bad());
+                    calls++;
+                }
+                if (calls == 400) {
+                    x = richAt(96);
+                    calls = 0;
+                }
+            }
         }
+    }
+
+    private static boolean areTold(Asked asked, long[] a) {
+        boolean areTold = true;
+        for (int place = 0; place < a.length; place++) {
+            areTold &= asked.isTold(place, a[place]);
+        }
+        return areTold;
+    }
+
+    private static void meeting(Asked asked, RiverModel x, long[] a) {
+        boolean isTold = areTold(asked, a);
         long answer = asked.by().ask(x, a);
         String call = asked.name() + Arrays.toString(a) + " of a new object";
         if (!isTold) {

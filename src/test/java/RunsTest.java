@@ -158,7 +158,7 @@ public final class RunsTest {
         C.due("p is 0", x.flow(2), 0);
         x = Checks.built("sa,0,1000000;sb,0,0;lab,999,1000,0;");
         x.run(1);
-        C.due("no int is overrun", x.flow(2), 999000);
+        C.due("a great store", x.flow(2), 999000);
     }
 
     private static void overflows() {
