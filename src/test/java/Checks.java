@@ -19,6 +19,9 @@ final class Checks {
     /** Fails for each part of the document that no test has named. */
     void allNamed() {
         words = "";
+        if (!document.isThere()) {
+            System.out.println(name + ": the document is not there, its words were not compared");
+        }
         for (String part : document.notNamed()) {
             due("a test names " + part, 0, 1);
         }

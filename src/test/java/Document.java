@@ -47,8 +47,12 @@ final class Document {
         return head.equals("Terms") || head.startsWith("Promise ") || head.equals("What it is") && line.contains("====");
     }
 
+    boolean isThere() {
+        return !texts.isEmpty();
+    }
+
     boolean name(String head, String quote) {
-        boolean isFound = texts.isEmpty();
+        boolean isFound = !isThere();
         for (int k = 0; k < texts.size(); k++) {
             if (heads.get(k).equals(head) && texts.get(k).contains(quote)) {
                 named.set(k, true);
