@@ -29,6 +29,7 @@ public final class FaceTest {
     public static void main(String[] args) throws IOException {
         constants();
         face();
+        faceOfDocument();
         classes();
         source();
         C.end();
@@ -70,6 +71,20 @@ public final class FaceTest {
             }
         }
         C.due("fields " + fields, fields.equals(Set.of("BAD", "NO", "FULL", "NONE")) ? 1 : 0, 1);
+    }
+
+    private static void faceOfDocument() throws IOException {
+        Path place = Path.of("../shared/DOC.md");
+        if (!Files.isReadable(place)) {
+            System.out.println("FaceTest: the document is not there, its face was not compared");
+            return;
+        }
+        Set<String> told = new TreeSet<>();
+        Matcher lines = Pattern.compile("(?m)^ {4}public ((?:int|long) \\w+\\(.*\\));$").matcher(Files.readString(place));
+        while (lines.find()) {
+            told.add(lines.group(1).replaceAll("(int|long) \\w+([,)])", "$1$2").replace(", ", ","));
+        }
+        C.due("the document's face " + told, told.equals(new TreeSet<>(Arrays.asList(FACE))) ? 1 : 0, 1);
     }
 
     private static String signature(Method method) {
